@@ -326,7 +326,6 @@ public final class XmppPair {
         return new Stanza(kind, shown.account, shown.resource, value, to, NONE);
     }
 
-    /** Sends a connection's HERE or GONE to each account that gets its account's presence. */
     private void sendToWatchers(Connection shown, int kind) {
         Account own = accounts[shown.account];
         for (int other = 0; other < ACCOUNTS; other++) {
@@ -336,7 +335,6 @@ public final class XmppPair {
         }
     }
 
-    /** Sends HERE or GONE of each of an account's AVAILABLE connections to one other account. */
     private void sendPresences(int account, int other, int kind) {
         for (Connection each : connections) {
             if (each.isAvailableFor(account)) {
@@ -370,7 +368,6 @@ public final class XmppPair {
         }
     }
 
-    /** Changes the marks of the account that sends a subscription stanza, before it is sent. */
     private static void changeOwnMarks(Account own, int other, int kind) {
         switch (kind) {
             case ASK:
@@ -385,8 +382,10 @@ public final class XmppPair {
             case LEAVE:
                 own.dropMarks(other, TO | OUT);
                 break;
-            default:
+            case DENY:
                 own.dropMarks(other, FROM | IN);
+                break;
+            default:
                 break;
         }
     }
@@ -434,10 +433,14 @@ public final class XmppPair {
             case DENY:
                 endingArrives(stanza, TO | OUT);
                 break;
-            default:
+            case HERE:
+            case GONE:
                 if (accounts[stanza.to].hasAny(stanza.from, TO)) {
                     giveToAvailable(stanza);
                 }
+                break;
+            default:
+                // No other kind is ever sent: returnError tells why an ERROR is not.
                 break;
         }
     }
@@ -569,7 +572,7 @@ public final class XmppPair {
             }
         }
 
-        /** For a queue that is not empty. */
+        /** Its callers look at the size first: an empty queue has no stanza of its own to give. */
         Stanza removeFirst() {
             Stanza first = places[0];
             for (int i = 1; i < size; i++) {
