@@ -19,6 +19,7 @@ final class CountTest {
         Check.answers("ERRORs", 6, () -> x.connection(0, 4));
         Check.answers("waiting", 0, () -> x.count(1));
         lostByMany(x);
+        allKeptRowsFull();
         Check.finish();
     }
 
@@ -38,5 +39,19 @@ final class CountTest {
         Check.answers("waiting", 8, () -> x.count(1));
         Check.answers("lost with the ERROR that found no room", 11, () -> x.count(2));
         Check.answers("link", 0, () -> x.count(3));
+    }
+
+    private static void allKeptRowsFull() {
+        XmppPair x = Check.withAccounts();
+        Check.toBound(x, 0, 0, 0);
+        for (int i = 0; i < 5 * 8; i++) {
+            x.message(0, i % 8, -1, i);
+        }
+        Check.answers("kept for all", 32, () -> x.count(0));
+        for (int what = 4; what < 12; what++) {
+            int asked = what;
+            Check.answers("count(" + what + ")", 4, () -> x.count(asked));
+        }
+        Check.answers("lost", 0, () -> x.count(2));
     }
 }

@@ -6,10 +6,26 @@ import java.util.TreeSet;
 
 /** The public face, and rule 1 of LANGUAGE.md. */
 final class FaceTest {
+    private static final String ARGUMENT = " IllegalArgumentException";
+    private static final String STATE = " IllegalStateException";
+    private static final String NO_ELEMENT = " NoSuchElementException";
     private static final String[] FACE = {
-        "bind(int,int)", "close(int)", "connect(int)", "connection(int,int)", "count(int)", "gone(int)",
-        "here(int,int)", "link(boolean)", "login(int,int)", "message(int,int,int,int)", "prove(int,int)",
-        "register(int,int)", "roster(int,int)", "subscribe(int,int,int)", "take(int)", "taken(int)",
+        "register(int,int)" + ARGUMENT + STATE,
+        "connect(int)" + ARGUMENT + STATE,
+        "login(int,int)" + ARGUMENT + STATE,
+        "prove(int,int)" + ARGUMENT + STATE + " UnsupportedOperationException",
+        "bind(int,int)" + ARGUMENT + STATE,
+        "here(int,int)" + ARGUMENT + STATE,
+        "gone(int)" + ARGUMENT + STATE,
+        "close(int)" + ARGUMENT + STATE,
+        "message(int,int,int,int)" + ARGUMENT + STATE,
+        "subscribe(int,int,int)" + ARGUMENT + STATE,
+        "link(boolean)",
+        "take(int)" + ARGUMENT + NO_ELEMENT,
+        "taken(int)" + NO_ELEMENT + ARGUMENT,
+        "roster(int,int)" + ARGUMENT,
+        "connection(int,int)" + ARGUMENT,
+        "count(int)" + ARGUMENT,
     };
 
     private static String signature(Method method) {
@@ -20,7 +36,11 @@ final class FaceTest {
             }
             text.append(type.getSimpleName());
         }
-        return text.append(')').toString();
+        text.append(')');
+        for (Class<?> type : method.getExceptionTypes()) {
+            text.append(' ').append(type.getSimpleName());
+        }
+        return text.toString();
     }
 
     public static void main(String[] args) {

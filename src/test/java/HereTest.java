@@ -8,6 +8,8 @@ final class HereTest {
         othersBehindTheLink();
         keptIsHandedOver();
         keptIsLostBeyondTheInbox();
+        everyWatcher();
+        everyPriority();
         Check.finish();
     }
 
@@ -141,6 +143,59 @@ final class HereTest {
             x.take(1);
             int body = i;
             Check.answers("body " + i, body, () -> x.taken(2));
+        }
+    }
+
+    /** Account 3 has FROM for all seven others; each of them gets HERE, and GONE by gone and by close. */
+    private static void everyWatcher() {
+        for (int watcher = 0; watcher < 8; watcher++) {
+            if (watcher != 3) {
+                XmppPair x = Check.withAccounts();
+                Check.toBound(x, 0, 3, 1);
+                allAsk(x);
+                Check.online(x, 1, watcher, 0, 0);
+                Check.drain(x, 1);
+                x.here(0, 2);
+                Check.inbox(x, 1, "2/3/1/2");
+                x.gone(0);
+                Check.inbox(x, 1, "3/3/1/0");
+                x.here(0, -3);
+                x.close(0);
+                Check.inbox(x, 1, "2/3/1/-3 3/3/1/0");
+            }
+        }
+        XmppPair x = Check.withAccounts();
+        Check.toBound(x, 0, 3, 1);
+        allAsk(x);
+        x.link(false);
+        x.here(0, 0);
+        Check.answers("waiting, one for each account of the other server", 4, () -> x.count(1));
+        x.close(0);
+        Check.answers("waiting", 8, () -> x.count(1));
+        Check.answers("link", 8, () -> x.link(true));
+    }
+
+    private static void allAsk(XmppPair x) {
+        for (int asking = 0; asking < 8; asking++) {
+            if (asking != 3) {
+                Check.toBound(x, 5, asking, 0);
+                x.subscribe(5, 3, 4);
+                x.subscribe(0, asking, 5);
+                x.close(5);
+            }
+        }
+    }
+
+    /** -3 .. 3: with less than 0 what was KEPT stays kept, with 0 or more it is handed over. */
+    private static void everyPriority() {
+        for (int priority = -3; priority <= 3; priority++) {
+            XmppPair x = Check.withAccounts();
+            Check.toBound(x, 0, 0, 0);
+            x.message(0, 0, -1, 8);
+            int here = priority;
+            Check.answers("here(0, " + here + ")", here < 0 ? 0 : 1, () -> x.here(0, here));
+            Check.answers("kept", here < 0 ? 1 : 0, () -> x.count(4));
+            Check.answers("available", 1, () -> x.connection(0, 3));
         }
     }
 }

@@ -19,6 +19,7 @@ final class LinkTest {
         Check.inbox(x, 1, "1/0/0/1 4/0/-1/0 1/0/0/2");
         Check.answers("link(true) again", 0, () -> x.link(true));
         answersAreNotCounted();
+        grantIsNotCounted();
         arrivesInTheStateThatIs();
         Check.finish();
     }
@@ -34,6 +35,25 @@ final class LinkTest {
         Check.answers("link(true)", 6, () -> x.link(true));
         Check.inbox(x, 0, "8/4/-1/4 8/4/-1/5");
         Check.answers("kept", 4, () -> x.count(8));
+    }
+
+    /** An ASK that waits and finds FROM, since the LEAVE before it was a 9th, brings a GRANT. */
+    private static void grantIsNotCounted() {
+        XmppPair x = Check.withAccounts();
+        Check.online(x, 0, 0, 0, 0);
+        Check.toBound(x, 1, 4, 0);
+        Check.befriend(x, 0, 1);
+        x.link(false);
+        for (int i = 0; i < 8; i++) {
+            x.message(1, 3, -1, i);
+        }
+        x.subscribe(0, 4, 6);
+        Check.answers("link(true)", 8, () -> x.link(true));
+        x.link(false);
+        x.subscribe(0, 4, 4);
+        Check.answers("link(true)", 1, () -> x.link(true));
+        Check.inbox(x, 0, "5/4/-1/0");
+        Check.marks(x, 0, 4, 1);
     }
 
     private static void arrivesInTheStateThatIs() {

@@ -6,6 +6,7 @@ final class ProveTest {
         notRegistered();
         registeredInBetween();
         theGreatestPassword();
+        proofsAtTheEdges();
         Check.finish();
     }
 
@@ -72,5 +73,36 @@ final class ProveTest {
         x.connect(0);
         x.login(0, 0);
         Check.answers("prove 9999 * 31 + 4242", 1, () -> x.prove(0, 3994));
+    }
+
+    /** The proof begins anew behind 10006: the last one, 0 and 1, and the sums themselves, which are none. */
+    private static void proofsAtTheEdges() {
+        atTheEdge(0, 0, 4242, 4242);
+        atTheEdge(186, 0, 1, 10008);
+        atTheEdge(199, 5, 10006, 10006);
+        atTheEdge(1800, 0, 0, 60042);
+        atTheEdge(3414, 0, 10006, 110076);
+    }
+
+    private static void atTheEdge(int password, int challengesBefore, int proof, int sum) {
+        int challenge = (7919 * challengesBefore + 4242) % 10000;
+        Check.same("the sum", password * 31 + challenge, sum);
+        XmppPair x = challenged(password, challengesBefore);
+        Check.answers("prove(0, " + proof + ") of password " + password, 1, () -> x.prove(0, proof));
+        for (int wrong : new int[] {proof - 1, proof + 1, proof + 10007, proof - 10007}) {
+            fails(challenged(password, challengesBefore), "prove(0, " + wrong + ") of password " + password, wrong);
+        }
+    }
+
+    private static XmppPair challenged(int password, int challengesBefore) {
+        XmppPair x = new XmppPair();
+        x.register(7, password);
+        x.connect(0);
+        for (int i = 0; i < challengesBefore; i++) {
+            x.login(0, 0);
+            fails(x, "a proof of no account", 0);
+        }
+        x.login(0, 7);
+        return x;
     }
 }

@@ -29,6 +29,42 @@ final class RosterTest {
             Check.marks(x, 7, other, 0);
             Check.marks(x, other, 7, 0);
         }
+        everyTwoAccounts();
+        forItself();
         Check.finish();
+    }
+
+    /** It is not out of range, and an account has no marks for itself. */
+    private static void forItself() {
+        XmppPair x = Check.withAccounts();
+        for (int account = 0; account < 8; account++) {
+            Check.marks(x, account, account, 0);
+        }
+    }
+
+    /** OUT and IN of each two accounts, and no mark of any others. */
+    private static void everyTwoAccounts() {
+        for (int asking = 0; asking < 8; asking++) {
+            for (int asked = 0; asked < 8; asked++) {
+                if (asking != asked) {
+                    XmppPair x = Check.withAccounts();
+                    Check.toBound(x, 0, asking, 0);
+                    x.subscribe(0, asked, 4);
+                    onlyThese(x, asking, asked);
+                }
+            }
+        }
+    }
+
+    private static void onlyThese(XmppPair x, int asking, int asked) {
+        for (int account = 0; account < 8; account++) {
+            for (int other = 0; other < 8; other++) {
+                if (account != other) {
+                    int out = account == asking && other == asked ? 4 : 0;
+                    int in = account == asked && other == asking ? 8 : 0;
+                    Check.marks(x, account, other, out + in);
+                }
+            }
+        }
     }
 }

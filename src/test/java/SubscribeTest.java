@@ -17,6 +17,10 @@ final class SubscribeTest {
         grantedByItself();
         presenceNeedsTo();
         throughTheLink();
+        askOfOneThatHasTo();
+        everyKindToTheFirstAndTheLast();
+        denyWithoutFrom();
+        presenceToTheOtherAlone();
         Check.finish();
     }
 
@@ -219,5 +223,72 @@ final class SubscribeTest {
         x.link(true);
         Check.inbox(x, 0, "");
         Check.inbox(x, 1, "4/0/-1/0 6/0/-1/0");
+    }
+
+    /** "else nothing happens but that it is sent": shown where the DENY to the one with TO was a 9th. */
+    private static void askOfOneThatHasTo() {
+        XmppPair x = two(0, 4);
+        Check.befriend(x, 0, 1);
+        x.gone(1);
+        Check.drain(x, 0);
+        x.link(false);
+        for (int i = 0; i < 8; i++) {
+            x.message(1, 3, -1, i);
+        }
+        x.subscribe(1, 0, DENY);
+        x.link(true);
+        Check.marks(x, 0, 4, 1);
+        Check.marks(x, 4, 0, 0);
+        x.here(1, 0);
+        Check.answers("ASK", 1, () -> x.subscribe(0, 4, ASK));
+        Check.marks(x, 0, 4, 1);
+        Check.marks(x, 4, 0, 8);
+        Check.inbox(x, 1, "4/0/-1/0");
+        Check.answers("GRANT", 1, () -> x.subscribe(1, 0, GRANT));
+        Check.marks(x, 0, 4, 1);
+        Check.marks(x, 4, 0, 2);
+        Check.inbox(x, 0, "2/4/1/0");
+    }
+
+    private static void everyKindToTheFirstAndTheLast() {
+        for (int kind = ASK; kind <= DENY; kind++) {
+            int each = kind;
+            XmppPair x = Check.withAccounts();
+            Check.toBound(x, 0, 3, 0);
+            int answer = kind == GRANT ? 0 : 1;
+            Check.answers("kind " + kind + " to 0", answer, () -> x.subscribe(0, 0, each));
+            Check.answers("kind " + kind + " to 7", answer, () -> x.subscribe(0, 7, each));
+            Check.marks(x, 3, 0, kind == ASK ? 4 : 0);
+            Check.marks(x, 3, 7, kind == ASK ? 4 : 0);
+        }
+    }
+
+    /** "if it had FROM, GONE ... goes first": with IN alone, and with no mark, the DENY goes alone. */
+    private static void denyWithoutFrom() {
+        XmppPair x = two(0, 4);
+        x.subscribe(0, 4, ASK);
+        x.link(false);
+        Check.answers("DENY when it has IN", 1, () -> x.subscribe(1, 0, DENY));
+        Check.answers("waiting", 1, () -> x.count(1));
+        Check.answers("DENY when it has no mark", 1, () -> x.subscribe(1, 0, DENY));
+        Check.answers("waiting", 2, () -> x.count(1));
+        Check.answers("link", 2, () -> x.link(true));
+        Check.inbox(x, 0, "7/4/-1/0");
+    }
+
+    /** The HERE behind a GRANT and the GONE before a DENY are for that account, not for all that have TO. */
+    private static void presenceToTheOtherAlone() {
+        XmppPair x = two(0, 1);
+        Check.online(x, 2, 2, 0, 0);
+        Check.befriend(x, 2, 1);
+        x.subscribe(0, 1, ASK);
+        x.subscribe(1, 0, GRANT);
+        Check.inbox(x, 0, "5/1/-1/0 2/1/1/2");
+        Check.inbox(x, 2, "");
+        x.subscribe(1, 0, DENY);
+        Check.inbox(x, 0, "3/1/1/0 7/1/-1/0");
+        Check.inbox(x, 2, "");
+        Check.marks(x, 1, 2, 2);
+        Check.marks(x, 2, 1, 1);
     }
 }
